@@ -850,7 +850,7 @@ public final class PotteryNights {
                 case 0: return firedTo(BROKEN, heat);
                 case 1: return firedTo(BISCUIT, heat);
                 case 2: return firedTo(DONE, heat);
-                // Nothing else than clay and glazed pots is in the kiln, and none of them is fired to be one of these anew.
+                // Only clay and glazed pots are in the kiln, and no pot comes to be one of these by a firing.
                 case 3: return firedTo(CLAY, heat) | firedTo(GLAZED, heat);
                 default: return BAD_VALUE;
             }
