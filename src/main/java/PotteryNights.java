@@ -508,7 +508,7 @@ public final class PotteryNights {
             }
         }
 
-        int heatOfGlazeOn(int pot) {
+        private int heatOfGlazeOn(int pot) {
             return HEAT_OF_FIRST_GLAZE + HEAT_BETWEEN_GLAZES * glazes.at(pot);
         }
 

@@ -9,6 +9,7 @@ public final class HistoryTest {
         changesOfNothingAreRecorded();
         whatIsNoChange();
         drawsAreUndone();
+        otherPotsInTheirStead();
         save();
         restore();
         Checks.finish();
@@ -80,6 +81,7 @@ public final class HistoryTest {
             Scenes.type(y, "p;n5;b20+3");
             y.carryOut();
         });
+        undone("set", x, y -> y.set(PotteryNights.FEE, 7));
     }
 
     private static void undoLeavesPadAndSlots() {
@@ -137,6 +139,32 @@ public final class HistoryTest {
         Checks.due("of(0, 0)", x.of(0, 0), 1);
         Checks.due("of(0, 6): the first draw again", x.of(0, 6), 8);
         Checks.due("of(1, 6): the second one", x.of(1, 6), 6);
+    }
+
+    private static void otherPotsInTheirStead() {
+        PotteryNights x = Scenes.withPupils(2);
+        x.book(0, 0, 0);
+        x.book(1, 1, 0);
+        x.throwPot(0, 1);
+        x.save(0);
+        x.undo();
+        x.throwPot(1, 3);
+        x.restore(0);
+        Checks.due("of(0, 0) of the first one", x.of(0, 0), 0);
+        Checks.due("of(0, 1) of the first one", x.of(0, 1), 1);
+        x.undo();
+        Checks.due("of(0, 0) of the other one", x.of(0, 0), 1);
+        Checks.due("of(0, 1) of the other one", x.of(0, 1), 3);
+
+        PotteryNights glazed = Scenes.withBiscuits(1);
+        glazed.glaze(0, 1);
+        glazed.save(0);
+        glazed.undo();
+        glazed.glaze(0, 2);
+        glazed.restore(0);
+        Checks.due("of(0, 7) of the first glaze", glazed.of(0, 7), 1);
+        glazed.undo();
+        Checks.due("of(0, 7) of the other glaze", glazed.of(0, 7), 2);
     }
 
     private static void save() {
