@@ -1,10 +1,11 @@
 import java.util.Arrays;
 import java.util.Random;
 
-/** Runs of 512 calls by seeds, held against the document written a second time. */
+/** Runs of calls by seeds, held against the document written a second time; it promises 512 calls for each object. */
 public final class ModelTest {
-    private static final int RUNS = 600;
+    private static final int RUNS = 2400;
     private static final int CALLS = 512;
+    private static final int CALLS_OF_A_LOOK = 21 + 20 * 11 + 10 * 8 + 1;
     private static final int[] ODD = {Integer.MIN_VALUE, Integer.MAX_VALUE, -1, -2, 99, 100, 255, 1000, 65536};
 
     private final Random random;
@@ -14,9 +15,11 @@ public final class ModelTest {
     // A calm run seldom goes back, so that it gets far; the others are there for undo() and restore().
     private final boolean calm;
     private boolean right = true;
+    private int calls = 0;
 
     private ModelTest(int seed) {
-        random = new Random(seed);
+        // Seeds that are close begin with much the same numbers, so they are spread first.
+        random = new Random(seed * 0x9E3779B97F4A7C15L);
         calm = seed % 2 == 0;
     }
 
@@ -24,14 +27,12 @@ public final class ModelTest {
         int[] reached = new int[4];
         for (int seed = 0; seed < RUNS; seed++) {
             ModelTest test = new ModelTest(seed);
-            for (int call = 0; call < CALLS && test.right; call++) {
-                test.call();
-            }
+            test.play(seed % 4 < 2 ? CALLS : CALLS - CALLS_OF_A_LOOK);
             Checks.due("all answers of the run " + seed + " (1: yes)", test.right ? 1 : 0, 1);
-            reached[0] += test.x.count(2) == 20 ? 1 : 0;
-            reached[1] += test.x.count(9) > 0 ? 1 : 0;
-            reached[2] += test.x.count(10) > 0 ? 1 : 0;
-            reached[3] += test.x.count(8) > 4 ? 1 : 0;
+            reached[0] += test.model.count(2) == 20 ? 1 : 0;
+            reached[1] += test.model.count(9) > 0 ? 1 : 0;
+            reached[2] += test.model.count(10) > 0 ? 1 : 0;
+            reached[3] += test.model.count(8) > 4 ? 1 : 0;
         }
         // Runs that reach nothing would tell nothing.
         for (int what = 0; what < reached.length; what++) {
@@ -39,6 +40,17 @@ public final class ModelTest {
         }
         System.out.println("runs with 20 pots, broken ones, fees, more than 4 firings: " + Arrays.toString(reached));
         Checks.finish();
+    }
+
+    /** Makes so many calls; with those that are left then it asks for everything. */
+    private void play(int most) {
+        if (upTo(1) == 0) {
+            throwMany();
+        }
+        for (int call = 0; call < CALLS && calls < most && right; call++) {
+            call();
+        }
+        look();
     }
 
     private int upTo(int most) {
@@ -58,7 +70,7 @@ public final class ModelTest {
     }
 
     private int pot() {
-        return within(0, Math.max(x.count(2) - 1, 0));
+        return within(0, Math.max(model.count(2) - 1, 0));
     }
 
     private int potOf(int set) {
@@ -74,18 +86,18 @@ public final class ModelTest {
 
     private int potOfKind(int kind) {
         int set = 0;
-        for (int pot = 0; pot < x.count(2); pot++) {
-            set |= x.of(pot, 2) == kind && x.of(pot, 3) != 2 ? 1 << pot : 0;
+        for (int pot = 0; pot < model.count(2); pot++) {
+            set |= model.of(pot, 2) == kind && model.of(pot, 3) != 2 ? 1 << pot : 0;
         }
         return potOf(set);
     }
 
     private int pupil() {
-        return within(0, Math.max(x.count(1) - 1, 0));
+        return within(0, Math.max(model.count(1) - 1, 0));
     }
 
     private int heat() {
-        return upTo(2) == 0 && x.count(4) != 0 ? x.bestHeat() + upTo(2) - 1 : within(80, 140);
+        return upTo(2) == 0 && model.count(4) != 0 ? model.bestHeat() + upTo(2) - 1 : within(80, 140);
     }
 
     private void call() {
@@ -99,12 +111,14 @@ public final class ModelTest {
         } else if (!calm || upTo(7) == 0) {
             goBack();
         }
-        if (chance % 8 == 0) {
-            look();
-        }
     }
 
+    /** What an object answers behind its last call that counts is free. */
     private void due(String call, int got, int want) {
+        calls++;
+        if (calls > CALLS) {
+            return;
+        }
         run.append(call).append(" = ").append(got).append('\n');
         if (got != want && right) {
             right = false;
@@ -147,11 +161,11 @@ public final class ModelTest {
                 due("throwPot(" + a + ", " + b + ")", x.throwPot(a, b), model.throwPot(a, b));
                 break;
             case 8: case 9:
-                a = potOf(x.count(7));
+                a = potOf(model.count(7));
                 due("load(" + a + ")", x.load(a), model.load(a));
                 break;
             case 10:
-                a = potOf(x.count(4));
+                a = potOf(model.count(4));
                 due("unload(" + a + ")", x.unload(a), model.unload(a));
                 break;
             case 11:
@@ -234,11 +248,33 @@ public final class ModelTest {
             case 1: return "b" + upTo(9) + upTo(5);
             case 2: return "b" + upTo(9) + upTo(5) + "+" + within(0, 20);
             case 3: return "t" + upTo(9) + "*" + (1 + upTo(3));
-            case 4: return "l" + potOf(x.count(7));
+            case 4: return "l" + potOf(model.count(7));
             case 5: return "f" + heat();
             case 6: return "g" + potOfKind(1) + "." + upTo(4);
             case 7: return "n" + (1 + upTo(2));
             default: return "h" + potOfKind(3);
+        }
+    }
+
+    private void type(String text) {
+        for (int i = 0; i < text.length(); i += 8) {
+            long characters = Call.characters(text.substring(i, Math.min(i + 8, text.length())));
+            due("put(" + characters + "L)", x.put(characters), model.put(characters));
+        }
+    }
+
+    /** Up to 20 pots of a few nights, by texts, so that a run has calls left for what comes of them. */
+    private void throwMany() {
+        type("p;p;p;p;p;p;p;p");
+        due("carryOut()", x.carryOut(), model.carryOut());
+        for (int nights = upTo(5); nights > 0; nights--) {
+            StringBuilder orders = new StringBuilder();
+            for (int wheel = 0; wheel < 5; wheel++) {
+                int pupil = (wheel + nights) % 8;
+                orders.append('b').append(pupil).append(wheel).append(";t").append(pupil).append('*').append(1 + upTo(2)).append(';');
+            }
+            type(orders.append("n1").toString());
+            due("carryOut()", x.carryOut(), model.carryOut());
         }
     }
 
@@ -250,12 +286,7 @@ public final class ModelTest {
         } else if (chance == 1) {
             due("wipe()", x.wipe(), model.wipe());
         } else {
-            String text = order() + ";" + order() + ";" + order() + ";" + order() + (upTo(5) == 0 ? ";" : "");
-            for (int i = 0; i < text.length(); i += 8) {
-                long characters = Scenes.characters(text.substring(i, Math.min(i + 8, text.length())));
-                due("put(" + characters + "L)", x.put(characters), model.put(characters));
-            }
-            due("fault()", x.fault(), model.fault());
+            type(order() + ";" + order() + ";" + order() + ";" + order() + (upTo(5) == 0 ? ";" : ""));
         }
         due("fault()", x.fault(), model.fault());
         int carried = model.carryOut();
