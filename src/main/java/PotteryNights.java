@@ -1048,7 +1048,7 @@ public final class PotteryNights {
             if (length + more > codes.length) {
                 return TOO_MANY;
             }
-            for (int fromLast = more - 1; fromLast >= 0 && length < codes.length; fromLast--) {
+            for (int fromLast = more - 1; fromLast >= 0 && length >= 0 && length < codes.length; fromLast--) {
                 codes[length] = codeIn(characters, fromLast);
                 length++;
             }
